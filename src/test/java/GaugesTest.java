@@ -8,6 +8,7 @@ public final class GaugesTest {
         gaugeTakesTheLeastArea();
         gaugeLooksAtTheCurrent();
         gaugeLooksAtTheDrop();
+        gaugeLooksAtTheLastDigitOfTheDrop();
         gaugeCountsTheSlack();
         gaugeOfTheLargestNumbers();
         gaugeWithoutAWay();
@@ -91,6 +92,15 @@ public final class GaugesTest {
         CHECK.same("one microohm more", -1, x.gauge(0));
         x.load(0, 0, 0);
         CHECK.same("no load, no drop", 0, x.gauge(0));
+    }
+
+    private static void gaugeLooksAtTheLastDigitOfTheDrop() {
+        HarnessRows x = wireOf(19);
+        x.load(0, 52_579, 1);
+        x.table(0, 1, 1_000_000, 1001);
+        CHECK.same("52579 * 1001 * 19 is 10^9 + 1", -1, x.gauge(0));
+        x.table(0, 1, 1_000_000, 1000);
+        CHECK.same("one microohm less", 0, x.gauge(0));
     }
 
     private static void gaugeCountsTheSlack() {

@@ -38,6 +38,7 @@ public final class ReelsTest {
     }
 
     private static void nothingToPack() {
+        CHECK.same("reelOf(0) of a new object", -1, star(5).reelOf(0));
         HarnessRows x = new HarnessRows();
         packs(x, 5, 0);
         x.connector(2);
@@ -123,6 +124,9 @@ public final class ReelsTest {
         CHECK.throwsArgument("reel(0)", () -> x.reel(0));
         CHECK.same("reelOf(1) after a refused reel", 1, x.reelOf(1));
         packs(x, 100, 1, 0, 0, 0);
+        HarnessRows y = star(5, 5, 5, 5, 5, 5, 5, 5, 5);
+        packs(y, 45, 1, 0, 0, 0, 0, 0, 0, 0, 0, 0);
+        packs(y, 45, 1, 0, 0, 0, 0, 0, 0, 0, 0, 0);
     }
 
     private static void slackIsCut() {

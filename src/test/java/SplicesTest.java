@@ -32,6 +32,11 @@ public final class SplicesTest {
         CHECK.same("splice(1, 2)", 2, x.splice(1, 2));
         CHECK.same("splice(0, 2), which are joined but not spliced", 3, x.splice(0, 2));
         CHECK.same("splice(3, 0)", 4, x.splice(3, 0));
+        int[][] spliced = {{0, 1}, {1, 2}, {0, 2}, {3, 0}};
+        for (int[] pair : spliced) {
+            CHECK.same("spliced already", -1, x.splice(pair[0], pair[1]));
+            CHECK.same("spliced already, turned", -1, x.splice(pair[1], pair[0]));
+        }
     }
 
     private static void twentySplicesAtMost() {
