@@ -28,6 +28,7 @@ public final class HarnessRows {
     // Kept, so that a call of command makes no object.
     private final StringBuilder line = new StringBuilder();
     private long slackAbove = 0L;
+    // A divisor: slack() lets nothing below 1 in.
     private long slackBelow = 1L;
 
     public HarnessRows() {
