@@ -5,7 +5,13 @@ final class Check {
         long answer();
     }
 
+    private String sentence = "";
     private int wrong = 0;
+
+    /** The words of the document that the next answers are due by. */
+    void about(String words) {
+        sentence = words;
+    }
 
     void same(String call, long want, long got) {
         if (got != want) {
@@ -31,7 +37,7 @@ final class Check {
 
     void report(String text) {
         wrong++;
-        System.out.println(text);
+        System.out.println(sentence.isEmpty() ? text : "[" + sentence + "] " + text);
     }
 
     void end() {
